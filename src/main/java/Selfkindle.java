@@ -111,8 +111,12 @@ public final class Selfkindle {
         pile.count = pile.startOf(top);
         height--;
         isInterpreted = false;
-        wrong = faultOfTold();
-        if (wrong == 0) {
+        if (!told.findBinders()) {
+            wrong = UNBOUND;
+        } else if (!types.infer(told)) {
+            wrong = UNTYPED;
+        } else {
+            wrong = 0;
             current.findBinders();
             begin();
         }
@@ -266,20 +270,13 @@ public final class Selfkindle {
         runner.reset();
     }
 
-    private int faultOfTold() {
-        if (!told.findBinders()) {
-            return UNBOUND;
-        }
-        return types.infer(told) ? 0 : UNTYPED;
-    }
-
     /** The interpreter's rows are the largest ones, so an object that never asks for it goes without. */
     private Interpreter interpreted() {
         if (interpreter == null) {
-            interpreter = new Interpreter();
+            interpreter = new Interpreter(told);
         }
         if (!isInterpreted) {
-            interpreter.interpret(told);
+            interpreter.interpret();
             isInterpreted = true;
         }
         return interpreter;
@@ -329,6 +326,7 @@ public final class Selfkindle {
         private final int[] others;
         private final long[] numbers;
         private final int[] sizes;
+        private final int[] binders;
         private final int[] distances;
         int count;
 
@@ -339,6 +337,7 @@ public final class Selfkindle {
             others = new int[rows];
             numbers = new long[rows];
             sizes = new int[rows];
+            binders = new int[rows];
             distances = new int[rows];
         }
 
@@ -361,6 +360,7 @@ public final class Selfkindle {
             others[count] = other;
             numbers[count] = number;
             sizes[count] = 1 + parts;
+            binders[count] = NONE;
             distances[count] = NONE;
             count++;
         }
@@ -386,7 +386,7 @@ public final class Selfkindle {
         }
 
         boolean has(int i) {
-            return i >= 0 && i < count;
+            return i >= 0 && i < count && i < kinds.length;
         }
 
         int kindAt(int i) {
@@ -403,6 +403,10 @@ public final class Selfkindle {
 
         long numberAt(int i) {
             return has(i) ? numbers[i] : 0L;
+        }
+
+        int binderAt(int i) {
+            return has(i) ? binders[i] : NONE;
         }
 
         int distanceAt(int i) {
@@ -428,72 +432,63 @@ public final class Selfkindle {
             return at;
         }
 
-        /** In which one of the parts of the term that ends at i another one stands. */
-        int whichHas(int i, int inner) {
-            int last = partsOf(kindAt(i)) - 1;
-            for (int which = 0; which < last; which++) {
-                if (inner <= partAt(i, which)) {
-                    return which;
-                }
-            }
-            return last;
-        }
-
-        /** How many names a term binds in one of its parts. */
-        int bindsIn(int i, int which) {
-            switch (kindAt(i)) {
-                case A_FUNCTION:
-                    return 1;
-                case A_LET:
-                case A_HANDLER:
-                    return which == 1 ? 1 : 0;
-                case A_REC:
-                    return which == 0 ? 2 : 1;
-                default:
-                    return 0;
-            }
-        }
-
-        /** Finds for each name how many are bound nearer than it; tells whether all of them are bound. */
+        /** Finds for each name what binds it, and how many are bound nearer; tells whether all are bound. */
         boolean findBinders() {
             boolean isAll = true;
-            for (int i = 0; i < count && i < kinds.length; i++) {
-                if (kinds[i] == A_NAME) {
-                    distances[i] = distance(i, count - 1);
-                    isAll = isAll && distances[i] != NONE;
+            for (int i = 0; i < count; i++) {
+                if (kindAt(i) == A_NAME) {
+                    binders[i] = binder(i, count - 1);
+                    distances[i] = distance(i, binders[i]);
+                    isAll = isAll && binders[i] != NONE;
                 }
             }
             return isAll;
         }
 
-        /** How many names are bound nearer than the one at leaf, if the term that ends at end binds that; otherwise NONE. */
-        int distance(int leaf, int end) {
+        /** Where the term ends that binds the name at leaf, if it is in the one that ends at end; otherwise NONE. */
+        private int binder(int leaf, int end) {
             int name = nameAt(leaf);
-            int nearer = 0;
-            for (int i = leaf + 1; i <= end && i < count; i++) {
-                if (i - sizes[i] >= leaf) {
-                    continue;
+            for (int i = leaf + 1; i <= end && has(i); i++) {
+                int bound = bindsAt(i, leaf);
+                if (bound > 0 && names[i] == name || bound > 1 && others[i] == name) {
+                    return i;
                 }
-                int bound = bindsIn(i, whichHas(i, leaf));
-                if (bound == 2 && others[i] == name) {
-                    return nearer;
-                }
-                if (bound > 0 && names[i] == name) {
-                    return nearer + bound - 1;
-                }
-                nearer += bound;
             }
             return NONE;
         }
 
-        boolean isFreeAt(int i, int name, int end) {
-            return kindAt(i) == A_NAME && nameAt(i) == name && distance(i, end) == NONE;
+        private int distance(int leaf, int binder) {
+            int nearer = 0;
+            for (int i = leaf + 1; i < binder; i++) {
+                nearer += bindsAt(i, leaf);
+            }
+            boolean isBehindX = bindsAt(binder, leaf) > 1 && otherAt(binder) != nameAt(leaf);
+            return isBehindX ? nearer + 1 : nearer;
+        }
+
+        /** How many names the term that ends at i binds for the part at leaf: 2 in the body of a rec. */
+        private int bindsAt(int i, int leaf) {
+            if (i <= 0 || i >= count || i - sizes[i] >= leaf) {
+                return 0;
+            }
+            boolean isInLast = leaf >= i - sizes[i - 1];
+            switch (kinds[i]) {
+                case A_FUNCTION:
+                    return 1;
+                case A_LET:
+                case A_HANDLER:
+                    return isInLast ? 1 : 0;
+                case A_REC:
+                    return isInLast ? 1 : 2;
+                default:
+                    return 0;
+            }
         }
 
         /** Whether a name is in the term that ends at end. */
         boolean isIn(int name, int end) {
             for (int i = startOf(end); i <= end; i++) {
-                if (isFreeAt(i, name, end)) {
+                if (kindAt(i) == A_NAME && nameAt(i) == name && binder(i, end) == NONE) {
                     return true;
                 }
             }
@@ -515,7 +510,7 @@ public final class Selfkindle {
         /** Puts the number or name at leaf in place of a name in the term that ends at end. */
         void replace(int name, int end, int leaf) {
             for (int i = startOf(end); i <= end; i++) {
-                if (isFreeAt(i, name, end)) {
+                if (kindAt(i) == A_NAME && nameAt(i) == name && binder(i, end) == NONE) {
                     copyPart(leaf, i);
                 }
             }
@@ -558,26 +553,27 @@ public final class Selfkindle {
             made.clear();
             for (int i = 0; i < term.count; i++) {
                 made.addPart(term, i);
-                if (makesOther(pass, made.count - 1)) {
-                    others++;
+                int top = made.count - 1;
+                boolean isOther;
+                switch (pass) {
+                    case FOLD:
+                        isOther = folds(top);
+                        break;
+                    case INLINE:
+                        isOther = inlines(top);
+                        break;
+                    case DROP:
+                        isOther = drops(top);
+                        break;
+                    default:
+                        isOther = reduces(top);
+                        break;
                 }
+                others += isOther ? 1 : 0;
             }
             term.clear();
             term.addTerm(made, made.count - 1);
             return others;
-        }
-
-        private boolean makesOther(int pass, int top) {
-            switch (pass) {
-                case FOLD:
-                    return folds(top);
-                case INLINE:
-                    return inlines(top);
-                case DROP:
-                    return drops(top);
-                default:
-                    return reduces(top);
-            }
         }
 
         private boolean folds(int top) {
@@ -696,7 +692,7 @@ public final class Selfkindle {
      */
     private static final class Types {
         private static final int MOST = 200;
-        private static final int ROOM = PARTS * MOST + 1;
+        private static final int ROOM = PARTS * (MOST + 1) + 1;
         private static final int INTEGER = 0;
 
         private final int[] heads;
@@ -787,13 +783,15 @@ public final class Selfkindle {
         private int typeFrom(Term term, int i) {
             int first = typeAt(term.partAt(i, 0));
             int second = typeAt(term.partAt(i, 1));
+            int fresh = addVariable(levels[i]);
             switch (term.kindAt(i)) {
                 case Term.A_NAME:
-                    return typeFromBinder(term, i);
+                    return typeOfNamed(term, i);
                 case Term.A_FUNCTION:
                     return add(ARROW, typeOfName[i], first);
                 case Term.A_CALL:
-                    return typeOfCall(first, second, levels[i]);
+                    unify(first, add(ARROW, second, fresh));
+                    return fresh;
                 case Term.A_TWO:
                     unify(first, INTEGER);
                     unify(second, INTEGER);
@@ -808,10 +806,13 @@ public final class Selfkindle {
                 case Term.A_PAIR:
                     return add(BOTH, first, second);
                 case Term.A_HALF:
-                    return typeOfHalf(first, term.otherAt(i), levels[i]);
+                    int other = addVariable(levels[i]);
+                    boolean isFirst = term.otherAt(i) == 0;
+                    unify(first, add(BOTH, isFirst ? fresh : other, isFirst ? other : fresh));
+                    return fresh;
                 case Term.A_RAISE:
                     unify(first, INTEGER);
-                    return addVariable(levels[i]);
+                    return fresh;
                 case Term.A_HANDLER:
                     unify(first, second);
                     return first;
@@ -824,46 +825,22 @@ public final class Selfkindle {
             return part >= 0 && part < PARTS ? typeOfPart[part] : INTEGER;
         }
 
-        private int typeOfCall(int called, int value, int level) {
-            int given = addVariable(level);
-            unify(called, add(ARROW, value, given));
-            return given;
-        }
-
-        private int typeOfHalf(int whole, int which, int level) {
-            int first = addVariable(level);
-            int second = addVariable(level);
-            unify(whole, add(BOTH, first, second));
-            return which == 0 ? first : second;
-        }
-
-        private int typeFromBinder(Term term, int leaf) {
-            int distance = term.distanceAt(leaf);
-            for (int i = leaf + 1; i < term.count; i++) {
-                if (term.startOf(i) > leaf) {
-                    continue;
-                }
-                int which = term.whichHas(i, leaf);
-                int bound = term.bindsIn(i, which);
-                if (distance < bound) {
-                    return typeOfBoundIn(term, i, which, distance, levels[leaf]);
-                }
-                distance -= bound;
+        /** A name of a let, or of a rec in its rest, has other variables at each place. */
+        private int typeOfNamed(Term term, int leaf) {
+            int binder = term.binderAt(leaf);
+            if (binder < 0 || binder >= PARTS) {
+                isWrong = true;
+                return INTEGER;
             }
-            isWrong = true;
-            return INTEGER;
-        }
-
-        private int typeOfBoundIn(Term term, int binder, int which, int distance, int level) {
             int bound = typeOfName[binder];
             switch (term.kindAt(binder)) {
                 case Term.A_LET:
-                    return instance(typeAt(term.partAt(binder, 0)), levels[binder], level);
+                    return instance(typeAt(term.partAt(binder, 0)), levels[binder], levels[leaf]);
                 case Term.A_REC:
-                    if (which == 1) {
-                        return instance(bound, levels[binder], level);
+                    if (leaf > term.partAt(binder, 0)) {
+                        return instance(bound, levels[binder], levels[leaf]);
                     }
-                    return distance == 0 ? lefts[bound] : bound;
+                    return term.nameAt(leaf) == term.otherAt(binder) ? lefts[bound] : bound;
                 default:
                     return bound;
             }
@@ -934,14 +911,20 @@ public final class Selfkindle {
             pairs[0] = one;
             pairs[1] = other;
             for (int visits = 0; waiting > 1 && !isWrong; visits++) {
-                if (visits >= MOST) {
-                    isWrong = true;
-                    return;
-                }
                 waiting -= 2;
                 int first = resolve(pairs[waiting]);
                 int second = resolve(pairs[waiting + 1]);
-                if (first != second && areAlike(first, second)) {
+                if (visits >= MOST) {
+                    isWrong = true;
+                } else if (first == second) {
+                    continue;
+                } else if (heads[first] == VARIABLE) {
+                    stand(first, second);
+                } else if (heads[second] == VARIABLE) {
+                    stand(second, first);
+                } else if (heads[first] != heads[second]) {
+                    isWrong = true;
+                } else if (heads[first] != INT) {
                     pairs[waiting] = rights[first];
                     pairs[waiting + 1] = rights[second];
                     pairs[waiting + 2] = lefts[first];
@@ -949,22 +932,6 @@ public final class Selfkindle {
                     waiting += 4;
                 }
             }
-        }
-
-        /** Whether two types, now that what can be said of them as wholes is said, are alike if their parts are. */
-        private boolean areAlike(int first, int second) {
-            if (heads[first] == VARIABLE) {
-                stand(first, second);
-                return false;
-            }
-            if (heads[second] == VARIABLE) {
-                stand(second, first);
-                return false;
-            }
-            if (heads[first] != heads[second]) {
-                isWrong = true;
-            }
-            return !isWrong && heads[first] != INT;
         }
 
         /** Lets a variable stand for a type, whose variables then are in all types that it is in. */
@@ -1015,7 +982,7 @@ public final class Selfkindle {
         /** Copies made before this instance was begun are those of others. */
         private int copyOf(int variable, int level, int begun) {
             if (copies[variable] < begun) {
-                copies[variable] = addVariable(level);
+                copies[variable] = add(VARIABLE, NONE, level);
             }
             return copies[variable];
         }
@@ -1322,7 +1289,7 @@ public final class Selfkindle {
             }
             bound[names] = value;
             outers[names] = around;
-            depths[names] = depthOf(around) + 1;
+            depths[names] = around >= 0 && around < names ? depths[around] + 1 : 1;
             names++;
             return names - 1;
         }
@@ -1465,15 +1432,8 @@ public final class Selfkindle {
         private void perform(int what, long number) {
             int next = place + 1;
             int beyond = next + (int) number;
+            place = next;
             switch (what) {
-                case NUM:
-                case GET:
-                case TWO:
-                case PAIR:
-                case HALF:
-                    push(made(what, number));
-                    place = next;
-                    return;
                 case FN:
                     push(heap.addFunction(next, names));
                     place = beyond;
@@ -1484,11 +1444,9 @@ public final class Selfkindle {
                     return;
                 case BIND:
                     names = heap.bind(pop(), names);
-                    place = next;
                     return;
                 case UNBIND:
                     names = heap.outerOf(names);
-                    place = next;
                     return;
                 case IF:
                     place = heap.numberOf(pop()) == 0L ? beyond : next;
@@ -1496,48 +1454,43 @@ public final class Selfkindle {
                 case ELSE:
                     place = beyond;
                     return;
-                default:
-                    control(what, next, beyond);
-            }
-        }
-
-        private int made(int what, long number) {
-            int distance = (int) number;
-            if (what == NUM) {
-                return heap.addNumber(number);
-            }
-            if (what == GET) {
-                return heap.lookUp(names, distance);
-            }
-            int second = pop();
-            if (what == HALF) {
-                return number == 0L ? heap.firstOf(second) : heap.secondOf(second);
-            }
-            int first = pop();
-            if (what == PAIR) {
-                return heap.addPair(first, second);
-            }
-            return heap.addNumber(combine((int) number, heap.numberOf(first), heap.numberOf(second)));
-        }
-
-        private void control(int what, int next, int beyond) {
-            switch (what) {
+                case END:
+                    tries--;
+                    place = beyond;
+                    return;
+                case TRY:
+                    attempt(beyond);
+                    return;
                 case CALL:
                     enter(next);
                     return;
                 case RETURN:
                     leave();
                     return;
-                case TRY:
-                    attempt(next, beyond);
-                    return;
-                case END:
-                    tries--;
-                    place = beyond;
+                case RAISE:
+                    recover();
                     return;
                 default:
-                    recover();
+                    push(made(what, number));
             }
+        }
+
+        private int made(int what, long number) {
+            if (what == NUM) {
+                return heap.addNumber(number);
+            }
+            if (what == GET) {
+                return heap.lookUp(names, (int) number);
+            }
+            int last = pop();
+            if (what == HALF) {
+                return number == 0L ? heap.firstOf(last) : heap.secondOf(last);
+            }
+            int first = pop();
+            if (what == PAIR) {
+                return heap.addPair(first, last);
+            }
+            return heap.addNumber(combine((int) number, heap.numberOf(first), heap.numberOf(last)));
         }
 
         private void enter(int next) {
@@ -1560,7 +1513,7 @@ public final class Selfkindle {
             }
         }
 
-        private void attempt(int next, int clause) {
+        private void attempt(int clause) {
             if (tries >= 0 && tries < GOING_ON) {
                 tryPlaces[tries] = clause;
                 tryHeights[tries] = height;
@@ -1568,7 +1521,6 @@ public final class Selfkindle {
                 tryCalls[tries] = calls;
                 tries++;
             }
-            place = next;
         }
 
         private void recover() {
@@ -1609,6 +1561,7 @@ public final class Selfkindle {
         private static final int ROOM = (CALLS + 1) * PARTS;
         private static final int TURNS = 1_000_000;
 
+        private final Term term;
         private final Heap heap;
         private final int[] terms;
         private final int[] begun;
@@ -1617,11 +1570,11 @@ public final class Selfkindle {
         private int depth;
         private int calls;
         private int result;
-        private Term term;
         int outcome;
         long answer;
 
-        Interpreter() {
+        Interpreter(Term program) {
+            term = program;
             heap = new Heap(ROOM);
             terms = new int[WITHIN];
             begun = new int[WITHIN];
@@ -1629,14 +1582,13 @@ public final class Selfkindle {
             kept = new int[WITHIN];
         }
 
-        void interpret(Term program) {
-            term = program;
+        void interpret() {
             heap.clear();
             depth = 0;
             calls = 0;
             answer = 0L;
             outcome = GOING;
-            enter(program.count - 1, NONE);
+            enter(term.count - 1, NONE);
             for (int i = 0; i < TURNS && outcome == GOING; i++) {
                 turn(depth - 1);
             }

@@ -43,11 +43,17 @@ public final class RandomRunsTest {
 
     private static Model.Tree term(Telling telling, Random random) {
         int budget = 2 + random.nextInt(58);
-        switch (random.nextInt(6)) {
+        switch (random.nextInt(9)) {
             case 0:
                 return telling.wild(3 + random.nextInt(25));
             case 1:
                 return telling.growing();
+            case 2:
+                return telling.deep();
+            case 3:
+                return telling.broad();
+            case 4:
+                return telling.sized();
             default:
                 return telling.typed(budget);
         }

@@ -267,4 +267,86 @@ final class Telling {
                 return pair(last, last);
         }
     }
+
+    // ---- terms near the limits
+
+    /** A recursion that goes about as deep as the machine or the interpreter can. */
+    Model.Tree deep() {
+        int[] near = {3, 56, 60, 98, 120, 198, 199, 200, 250};
+        long times = near[below(near.length)] + below(5) - 2;
+        Model.Tree more = call(name(0), two(1, name(1), num(1)));
+        Model.Tree last = below(3) == 0 ? raise(num(below(3))) : num(below(3));
+        Model.Tree around = wrapped(more);
+        Model.Tree body = choose(name(1), around, last);
+        Model.Tree whole = rec(0, 1, below(4) == 0 ? handle(2, body, name(2)) : body, call(name(0), num(times)));
+        int wraps = below(4);
+        for (int i = 0; i < wraps; i++) {
+            whole = wrapped(whole);
+        }
+        return whole;
+    }
+
+    private Model.Tree wrapped(Model.Tree term) {
+        switch (below(8)) {
+            case 0:
+                return two(0, term, num(1));
+            case 1:
+                return two(0, num(1), term);
+            case 2:
+                return handle(2, term, two(0, name(2), num(1)));
+            case 3:
+                return handle(2, handle(3, term, raise(name(3))), name(2));
+            case 4:
+                return let(2, term, name(2));
+            case 5:
+                return half(0, pair(term, num(0)));
+            case 6:
+                return call(fn(2, two(2, name(2), num(2))), term);
+            default:
+                return term;
+        }
+    }
+
+    /** Many calls that are not within one another. */
+    Model.Tree broad() {
+        Model.Tree more = call(name(0), two(1, name(1), num(1)));
+        Model.Tree body = choose(name(1), two(0, more, more), num(1));
+        Model.Tree sum = call(name(0), num(5 + below(4)));
+        int terms = below(8);
+        for (int i = 0; i < terms; i++) {
+            sum = two(0, call(name(0), num(below(8))), sum);
+        }
+        return rec(0, 1, body, sum);
+    }
+
+    /** A pair whose type has about as many parts as a type can have. */
+    Model.Tree sized() {
+        int parts = 187 + 2 * below(14);
+        boolean isOfVariable = below(2) == 0;
+        Model.Tree term = sum(parts);
+        if (below(3) == 0) {
+            term = half(below(2), pair(term, below(2) == 0 ? num(1) : name(7)));
+        }
+        if (below(4) == 0) {
+            term = handle(0, raise(num(1)), term);
+        }
+        for (int k = 7; k > 1; k--) {
+            Model.Tree twice = pair(name(k - 1), name(k - 1));
+            term = below(5) == 0 ? call(fn(k, term), twice) : let(k, twice, term);
+        }
+        return isOfVariable ? fn(1, below(2) == 0 ? term : half(0, pair(num(1), term))) : let(1, num(1), term);
+    }
+
+    /** Name k has a type of 2^k - 1 parts. */
+    private Model.Tree sum(int parts) {
+        int k = 7;
+        while ((1 << k) - 1 > parts) {
+            k--;
+        }
+        int rest = parts - (1 << k);
+        if (rest <= 0) {
+            return name(k);
+        }
+        return below(2) == 0 ? pair(name(k), sum(rest)) : pair(sum(rest), name(k));
+    }
 }
