@@ -425,7 +425,7 @@ public final class Selfkindle {
         /** Where a part of the term that ends at i ends; which is from 0. */
         int partAt(int i, int which) {
             int at = i - 1;
-            int parts = has(i) ? PARTS_OF[kinds[i]] : 0;
+            int parts = has(i) ? partsOf(kinds[i]) : 0;
             for (int last = parts - 1; last > which && has(at); last--) {
                 at -= sizes[at];
             }
@@ -1589,8 +1589,12 @@ public final class Selfkindle {
             answer = 0L;
             outcome = GOING;
             enter(term.count - 1, NONE);
-            for (int i = 0; i < TURNS && outcome == GOING; i++) {
+            for (int i = 0; i < TURNS && outcome == GOING && depth > 0; i++) {
                 turn(depth - 1);
+            }
+            if (outcome == GOING) {
+                outcome = depth > 0 ? TIRED : heap.kindOf(result);
+                answer = heap.numberOf(result);
             }
         }
 
@@ -1613,10 +1617,6 @@ public final class Selfkindle {
         private void leave(int value) {
             result = value;
             depth--;
-            if (depth <= 0) {
-                outcome = heap.kindOf(value);
-                answer = heap.numberOf(value);
-            }
         }
 
         private void turn(int top) {

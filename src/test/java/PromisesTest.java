@@ -1,23 +1,5 @@
-import java.util.ArrayList;
-import java.util.List;
-
 /** Each promise of the document by itself: ordinary inputs, the edges that it names, and wrong inputs. */
-public final class PromisesTest {
-    private static final String INDEX = "java.lang.IndexOutOfBoundsException";
-    private static final String ARGUMENT = "java.lang.IllegalArgumentException";
-    private static final String STATE = "java.lang.IllegalStateException";
-    private static int passed;
-    private static int wrong;
-    private static String promise = "";
-
-    private interface Call {
-        long answer();
-    }
-
-    private interface Act {
-        void run();
-    }
-
+public final class PromisesTest extends Checking {
     public static void main(String[] args) {
         constants();
         newObject();
@@ -56,167 +38,7 @@ public final class PromisesTest {
         stateAnew();
         stateAnewLimits();
         valueAnew();
-        System.out.println(passed + " passed, " + wrong + " failed");
-        if (wrong != 0) {
-            System.exit(1);
-        }
-    }
-
-    // ---- how it is asked
-
-    private static void at(String which) {
-        promise = which;
-    }
-
-    private static void same(Object due, Object got) {
-        if (due.equals(got)) {
-            passed++;
-            return;
-        }
-        wrong++;
-        StackTraceElement[] trace = new Throwable().getStackTrace();
-        int line = 0;
-        for (StackTraceElement element : trace) {
-            boolean isTest = !List.of("same", "due", "refuses", "row", "code", "types").contains(element.getMethodName());
-            if (isTest && line == 0) {
-                line = element.getLineNumber();
-            }
-        }
-        System.out.println(promise + ", line " + line + ": answered " + got + ", due is " + due);
-    }
-
-    private static void due(long due, long got) {
-        same(due, got);
-    }
-
-    private static void due(boolean due, boolean got) {
-        same(due, got);
-    }
-
-    private static void refuses(String exception, Call call) {
-        String got = "nothing";
-        try {
-            call.answer();
-        } catch (IndexOutOfBoundsException | IllegalStateException | IllegalArgumentException thrown) {
-            got = thrown.getClass().getName();
-        }
-        same(exception, got);
-    }
-
-    private static void refuses(String exception, Act act) {
-        refuses(exception, () -> {
-            act.run();
-            return 0;
-        });
-    }
-
-    private static void tell(Selfkindle s, Model.Tree tree) {
-        for (Model.Tree part : tree.parts()) {
-            tell(s, part);
-        }
-        switch (tree.kind()) {
-            case NUMBER -> s.number(tree.number());
-            case NAME -> s.name(tree.name());
-            case FUNCTION -> s.function(tree.name());
-            case CALL -> s.call();
-            case TWO -> s.two(tree.other());
-            case IF -> s.choose();
-            case LET -> s.let(tree.name());
-            case REC -> s.rec(tree.name(), tree.other());
-            case PAIR -> s.pair();
-            case HALF -> s.half(tree.other() == 1);
-            case RAISE -> s.raise();
-            default -> s.handle(tree.name());
-        }
-    }
-
-    private static Selfkindle with(Model.Tree tree) {
-        Selfkindle s = new Selfkindle();
-        tell(s, tree);
-        s.program();
-        return s;
-    }
-
-    private static Model.Tree num(long number) {
-        return Telling.num(number);
-    }
-
-    private static Model.Tree x(int name) {
-        return Telling.name(name);
-    }
-
-    private static Model.Tree fn(int name, Model.Tree body) {
-        return Telling.fn(name, body);
-    }
-
-    private static Model.Tree app(Model.Tree called, Model.Tree value) {
-        return Telling.call(called, value);
-    }
-
-    private static Model.Tree two(int sign, Model.Tree first, Model.Tree second) {
-        return Telling.two(sign, first, second);
-    }
-
-    private static Model.Tree when(Model.Tree first, Model.Tree second, Model.Tree third) {
-        return Telling.choose(first, second, third);
-    }
-
-    private static Model.Tree let(int name, Model.Tree value, Model.Tree body) {
-        return Telling.let(name, value, body);
-    }
-
-    private static Model.Tree rec(int f, int x, Model.Tree body, Model.Tree rest) {
-        return Telling.rec(f, x, body, rest);
-    }
-
-    private static Model.Tree pair(Model.Tree first, Model.Tree second) {
-        return Telling.pair(first, second);
-    }
-
-    private static Model.Tree half(int which, Model.Tree pair) {
-        return Telling.half(which, pair);
-    }
-
-    private static Model.Tree raise(Model.Tree number) {
-        return Telling.raise(number);
-    }
-
-    private static Model.Tree handle(int name, Model.Tree body, Model.Tree clause) {
-        return Telling.handle(name, body, clause);
-    }
-
-    private static void row(List<Long> got, long... due) {
-        List<Long> all = new ArrayList<>();
-        for (long one : due) {
-            all.add(one);
-        }
-        same(all, got);
-    }
-
-    /** The whole code, order and number by turns. */
-    private static void code(Selfkindle s, long... due) {
-        List<Long> got = new ArrayList<>();
-        for (int i = 0; i < s.orders(); i++) {
-            got.add(s.order(i, 0));
-            got.add(s.order(i, 1));
-        }
-        row(got, due);
-    }
-
-    private static void types(Selfkindle s, long... due) {
-        List<Long> got = new ArrayList<>();
-        for (int i = 0; s.type(i) != Selfkindle.NONE; i++) {
-            got.add((long) s.type(i));
-        }
-        row(got, due);
-    }
-
-    /** A term of so many parts, a number with functions around it. */
-    private static void tellParts(Selfkindle s, int parts) {
-        s.number(1L);
-        for (int i = 1; i < parts; i++) {
-            s.function(0);
-        }
+        finish();
     }
 
     // ---- promises 1 to 14
@@ -513,15 +335,6 @@ public final class PromisesTest {
         types(beta, 1, 0, 1, 10, 10);
     }
 
-    /** Names 1 to 7 with types of 1, 3, 7, 15, 31, 63 and 127 parts. */
-    private static Model.Tree doubled(Model.Tree body) {
-        Model.Tree term = body;
-        for (int k = 7; k > 1; k--) {
-            term = let(k, pair(x(k - 1), x(k - 1)), term);
-        }
-        return let(1, num(1), term);
-    }
-
     private static void typeLimits() {
         at("types of 200 parts");
         Selfkindle most = with(doubled(pair(x(7), pair(x(6), x(3)))));
@@ -541,25 +354,6 @@ public final class PromisesTest {
     }
 
     // ---- passes
-
-    private static void passes(int passes, int due, Model.Tree from, Model.Tree to) {
-        Selfkindle s = with(from);
-        Selfkindle t = with(to);
-        due(0, s.fault());
-        due(due, s.optimise(passes));
-        due(t.size(), s.size());
-        same(codeOf(t), codeOf(s));
-        due(s.stateAnew(), s.go(2000));
-    }
-
-    private static List<Long> codeOf(Selfkindle s) {
-        List<Long> all = new ArrayList<>();
-        for (int i = 0; i < s.orders(); i++) {
-            all.add(s.order(i, 0));
-            all.add(s.order(i, 1));
-        }
-        return all;
-    }
 
     private static void fold() {
         at("promise 17, FOLD");
@@ -762,15 +556,6 @@ public final class PromisesTest {
         due(Selfkindle.PAIR_OF, with(pair(num(1), num(2))).go(3));
     }
 
-    /** Counts down from a number, with each call within the one before. */
-    private static Model.Tree countdown(Model.Tree more, long from) {
-        return rec(0, 1, when(x(1), more, num(8)), app(x(0), num(from)));
-    }
-
-    private static Model.Tree next() {
-        return app(x(0), two(1, x(1), num(1)));
-    }
-
     private static void goLimits() {
         at("200 calls");
         Selfkindle most = with(countdown(next(), 199));
@@ -807,18 +592,6 @@ public final class PromisesTest {
         due(Selfkindle.GOING, steps.go(2000));
         due(Selfkindle.TIRED, steps.go(2000));
         stepsAtTheEnd();
-    }
-
-    /** A program that takes 1990 steps, and 2 more for each sum, 3 more for a half. */
-    private static Model.Tree busy(int sums, boolean isHalf) {
-        Model.Tree busy = countdown(two(0, next(), num(0)), 180);
-        if (isHalf) {
-            busy = half(0, pair(busy, num(0)));
-        }
-        for (int i = 0; i < sums; i++) {
-            busy = two(0, busy, num(1));
-        }
-        return busy;
     }
 
     private static void stepsAtTheEnd() {
