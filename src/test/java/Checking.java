@@ -228,6 +228,13 @@ class Checking {
         return busy;
     }
 
+    /** Goes on to the end, so many steps at most at once; a machine that never ends is left GOING, so that the test ends. */
+    static void goOn(Selfkindle s, int steps) {
+        for (int i = 0; i < 2001 && s.state() == Selfkindle.GOING; i++) {
+            s.go(steps);
+        }
+    }
+
     // ---- rows of answers
 
     static void row(List<Long> got, long... due) {

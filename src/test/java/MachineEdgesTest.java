@@ -27,9 +27,7 @@ public final class MachineEdgesTest extends Checking {
     /** Goes on to the end, at most so many steps at once. */
     private static Selfkindle run(Model.Tree tree, int steps) {
         Selfkindle s = with(tree);
-        for (int i = 0; i < 2001 && s.state() == Selfkindle.GOING; i++) {
-            s.go(steps);
-        }
+        goOn(s, steps);
         return s;
     }
 
@@ -70,7 +68,7 @@ public final class MachineEdgesTest extends Checking {
             for (int steps : new int[] {1, 2, 3, 7, 1999, 2000}) {
                 Selfkindle s = with(countdown(next(), 3));
                 int did = 0;
-                while (s.go(steps) == Selfkindle.GOING) {
+                for (int i = 0; i < 100 && s.go(steps) == Selfkindle.GOING; i++) {
                     did += steps;
                     due(did, s.machine(1));
                 }
@@ -252,7 +250,7 @@ public final class MachineEdgesTest extends Checking {
         holds("the number is bound", () -> gives(Long.MIN_VALUE, handle(0, raise(num(Long.MIN_VALUE)), x(0))));
         holds("a try far around: every call and value between is gone", () -> {
             Selfkindle s = with(handle(3, countdown(two(0, num(1), next()), raise(num(44)), 60), x(3)));
-            while (s.machine(5) == 1 || s.machine(1) == 0) {
+            for (int i = 0; i < 2000 && (s.machine(5) == 1 || s.machine(1) == 0); i++) {
                 s.go(1);
             }
             machineIs(s, s.machine(0), s.machine(1), 0, 1, 0, 0);
@@ -449,9 +447,7 @@ public final class MachineEdgesTest extends Checking {
                 for (int i = 0; i < s.orders(); i++) {
                     due(0, s.order(i, 2));
                 }
-                while (s.state() == Selfkindle.GOING) {
-                    s.go(2000);
-                }
+                goOn(s, 2000);
                 due(state, s.state());
                 due(steps, s.machine(1));
             }

@@ -183,9 +183,7 @@ public final class RefusalsTest extends Checking {
         all.add(new State("a program that ended with " + how, s -> {
             tellAll(s, program);
             s.stop(1, true);
-            while (s.state() == Selfkindle.GOING) {
-                s.go(2000);
-            }
+            goOn(s, 2000);
         }, PILE, 0, orders, outcome));
     }
 

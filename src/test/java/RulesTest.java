@@ -7,8 +7,11 @@ import java.nio.file.Files;
 import java.nio.file.Path;
 import java.util.ArrayList;
 import java.util.Arrays;
+import java.util.HashMap;
 import java.util.HashSet;
+import java.util.LinkedHashMap;
 import java.util.List;
+import java.util.Map;
 import java.util.Set;
 import java.util.TreeSet;
 import java.util.regex.Matcher;
@@ -65,7 +68,7 @@ public final class RulesTest {
         }
         check("exceptions without a text or with a written one", throwsArePlain(code));
         methodsAreShort(source);
-        noRecursion(code);
+        callsGoUpward(code);
         System.out.println(passed + " passed, " + wrong + " failed");
         if (wrong != 0) {
             System.exit(1);
@@ -161,39 +164,63 @@ public final class RulesTest {
         }
     }
 
-    /** By names alone: a method calls only those that stand in no circle with it. */
-    private static void noRecursion(String code) {
-        List<String> names = new ArrayList<>();
-        List<String> bodies = new ArrayList<>();
-        Matcher begin = Pattern.compile("\n( {4}| {8})(?:(?:public|private|static|final) )*([A-Za-z\\[\\]]+ )?([a-zA-Z]+)\\([^\n]*\\{\n").matcher(code);
+    /** Methods are told as class and name; a call behind a dot is one of any class that has a method of that name. */
+    private static void callsGoUpward(String code) {
+        Map<String, String> bodies = new LinkedHashMap<>();
+        String holder = "Selfkindle";
+        Matcher begin = Pattern.compile("\n( {4}| {8})(?:(?:public|private|static|final) )*([A-Za-z\\[\\]]+ )?(?:class ([A-Za-z]+)|([a-zA-Z]+)\\([^\n]*) \\{\n").matcher(code);
         while (begin.find()) {
-            int end = code.indexOf("\n" + begin.group(1) + "}", begin.end() - 1);
-            names.add(begin.group(3));
-            bodies.add(code.substring(begin.end() - 1, end));
-        }
-        check("many methods", names.size() > 100);
-        boolean isMore = true;
-        List<Set<String>> reached = new ArrayList<>();
-        for (String body : bodies) {
-            Set<String> calls = new HashSet<>();
-            Matcher call = Pattern.compile("(?<!new )\\b([a-zA-Z]+)\\(").matcher(body);
-            while (call.find()) {
-                calls.add(call.group(1));
+            if (begin.group(3) != null) {
+                holder = begin.group(3);
+                continue;
             }
-            reached.add(calls);
+            int end = code.indexOf("\n" + begin.group(1) + "}", begin.end() - 1);
+            String own = begin.group(1).length() == 4 ? "Selfkindle" : holder;
+            check("one method of a name in a class: " + begin.group(4), bodies.put(own + "." + begin.group(4), code.substring(begin.end() - 1, end)) == null);
         }
-        while (isMore) {
-            isMore = false;
-            for (int i = 0; i < names.size(); i++) {
-                for (int j = 0; j < names.size(); j++) {
-                    if (reached.get(i).contains(names.get(j)) && !names.get(i).equals("add")) {
-                        isMore |= reached.get(i).addAll(reached.get(j));
-                    }
+        check("many methods", bodies.size() > 100);
+        Map<String, Set<String>> calls = new HashMap<>();
+        for (Map.Entry<String, String> one : bodies.entrySet()) {
+            calls.put(one.getKey(), calledBy(one.getKey(), one.getValue(), bodies.keySet()));
+        }
+        Map<String, Integer> depths = new HashMap<>();
+        for (String name : bodies.keySet()) {
+            int depth = depth(name, calls, depths, 1);
+            check("no recursion, and at most eight deep: " + name + ", " + depth, depth <= 8);
+        }
+        check("told to the deepest", depths.get("Selfkindle.stateAnew") > 5);
+    }
+
+    private static Set<String> calledBy(String name, String body, Set<String> all) {
+        Set<String> called = new HashSet<>();
+        Matcher call = Pattern.compile("(new )?(\\.)?\\b([a-zA-Z]+)\\(").matcher(body);
+        while (call.find()) {
+            String method = "." + call.group(3);
+            if (call.group(1) != null) {
+                method = call.group(3) + method;
+            }
+            String own = name.substring(0, name.indexOf('.')) + method;
+            for (String other : all) {
+                boolean isMeant = call.group(1) != null ? other.equals(method) : call.group(2) != null ? other.endsWith(method)
+                    : other.equals(all.contains(own) ? own : "Selfkindle" + method);
+                if (isMeant) {
+                    called.add(other);
                 }
             }
         }
-        for (int i = 0; i < names.size(); i++) {
-            check("no recursion: " + names.get(i), !reached.get(i).contains(names.get(i)));
+        return called;
+    }
+
+    /** How deep the calls go from a method on; a circle is told as far too deep. */
+    private static int depth(String name, Map<String, Set<String>> calls, Map<String, Integer> depths, int open) {
+        if (open > 100 || depths.containsKey(name)) {
+            return depths.getOrDefault(name, 1000);
         }
+        int most = 0;
+        for (String other : calls.get(name)) {
+            most = Math.max(most, depth(other, calls, depths, open + 1));
+        }
+        depths.put(name, most + 1);
+        return most + 1;
     }
 }
